@@ -253,8 +253,9 @@ final class Model {
 
     private int order(int[][] a) {
         int[][] power = a;
+        int[][] unit = unit();
         for (int k = 1; k <= 2000; k++) {
-            if (same(power, unit())) {
+            if (same(power, unit)) {
                 return k;
             }
             power = product(power, a);

@@ -4,7 +4,7 @@
  * numbers, so that every run of this test is the same.
  */
 public final class ModelTest {
-    private static final int RUNS = 400;
+    private static final int RUNS = 240;
     private static final int CALLS = 512;
     private static final int[] MODULI = {3, 5, 7, 11};
 
