@@ -25,7 +25,7 @@ import javax.tools.ToolProvider;
 public final class Broken {
     private static final Path SOURCE = Path.of("src/main/java/PeirceDesk.java");
     private static final Path CHANGES = Path.of("src/test/broken.txt");
-    private static final String[] CLASSES = {"EdgesOfElementsTest", "EdgesOfChangesTest", "EdgesOfQuestionsTest",
+    private static final String[] CLASSES = {"SentencesTest", "EdgesOfElementsTest", "EdgesOfChangesTest", "EdgesOfQuestionsTest",
         "EdgesOfPadTest", "EdgesOfHistoryTest", "OrderOfErrorsTest", "NothingChangesTest"};
 
     private final List<String> source;

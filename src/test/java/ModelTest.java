@@ -1,3 +1,8 @@
+import java.lang.reflect.Method;
+import java.lang.reflect.Modifier;
+import java.util.Arrays;
+import java.util.Comparator;
+
 /**
  * Long runs of calls, on the desk and on the model of the document; each answer has to be the same,
  * and from time to time the whole state is read. The calls are chosen by a counted sequence of
@@ -5,26 +10,35 @@
  */
 public final class ModelTest {
     private static final int RUNS = 240;
+    /* Runs in which half of the calls have any arguments at all. */
+    private static final int WILD_RUNS = 120;
     private static final int CALLS = 512;
     private static final int[] MODULI = {3, 5, 7, 11};
+    private static final int[] WILD = {Integer.MIN_VALUE, Integer.MIN_VALUE + 1, Integer.MAX_VALUE, Integer.MAX_VALUE - 1,
+        -256, 255, 256, 1 << 16, -(1 << 16), 1999, 2000, 2001, PeirceDesk.NONE};
+    private static final Method[] METHODS = PeirceDesk.class.getDeclaredMethods();
 
     private final Checks checks;
     private long seed;
     private PeirceDesk desk;
     private Model model;
     private int calls;
+    private final boolean isWild;
 
-    private ModelTest(Checks checks, long seed) {
+    private ModelTest(Checks checks, long seed, boolean isWild) {
         this.checks = checks;
         this.seed = seed;
+        this.isWild = isWild;
         desk = new PeirceDesk();
         model = new Model();
     }
 
-    public static void main(String[] arguments) {
+    public static void main(String[] arguments) throws ReflectiveOperationException {
         Checks checks = new Checks("ModelTest");
-        for (int run = 1; run <= RUNS && !checks.anyWrong(); run++) {
-            new ModelTest(checks, run * 7919L).go(run);
+        /* The machine tells the methods in any order. */
+        Arrays.sort(METHODS, Comparator.comparing(Method::toString));
+        for (int run = 1; run <= RUNS + WILD_RUNS && !checks.anyWrong(); run++) {
+            new ModelTest(checks, run * 7919L, run > RUNS).go(run);
         }
         countParts(checks);
         checks.finish();
@@ -44,12 +58,16 @@ public final class ModelTest {
         checks.due(call + " (call " + calls + ", pad " + model.pad + ")", got, want);
     }
 
-    private void go(int run) {
+    private void go(int run) throws ReflectiveOperationException {
         int size = 2 + run % 2;
         int modulus = MODULI[run / 2 % 4];
         begin(size, modulus);
         while (calls < CALLS - 70 && !checks.anyWrong()) {
-            step();
+            if (isWild && oneIn(2)) {
+                wild();
+            } else {
+                step();
+            }
         }
         while (calls < CALLS - 14 && !checks.anyWrong()) {
             readElements();
@@ -107,6 +125,34 @@ public final class ModelTest {
                 ask();
                 break;
         }
+    }
+
+    /** Calls any method with arguments of which some are far outside of what is allowed. */
+    private void wild() throws ReflectiveOperationException {
+        Method method = METHODS[below(METHODS.length)];
+        if (!Modifier.isPublic(method.getModifiers())) {
+            return;
+        }
+        Class<?>[] types = method.getParameterTypes();
+        Object[] arguments = new Object[types.length];
+        for (int k = 0; k < types.length; k++) {
+            if (types[k] == long.class) {
+                arguments[k] = wildCharacters();
+            } else {
+                int argument = oneIn(2) ? below(3) : oneIn(2) ? below(16) - 4 : WILD[below(WILD.length)];
+                arguments[k] = argument;
+            }
+        }
+        Method due = Model.class.getDeclaredMethod(method.getName(), types);
+        due(method.getName() + Arrays.toString(arguments), (Integer) method.invoke(desk, arguments), (Integer) due.invoke(model, arguments));
+    }
+
+    private long wildCharacters() {
+        long characters = 0;
+        for (int k = below(9); k > 0; k--) {
+            characters = characters << 8 | (oneIn(9) ? below(256) : "AB:=+-(iv)2*".charAt(below(12)));
+        }
+        return oneIn(9) ? seed : characters;
     }
 
     private static int NONE() {
@@ -335,7 +381,7 @@ public final class ModelTest {
 
     /** The exponents once more, by counting the parts of all elements one by one. */
     private static void countParts(Checks checks) {
-        ModelTest test = new ModelTest(checks, 5);
+        ModelTest test = new ModelTest(checks, 5, false);
         for (int round = 0; round < 24; round++) {
             int size = round % 3 == 0 ? 3 : 2;
             test.desk = new PeirceDesk();
