@@ -175,16 +175,19 @@ abstract class Edges {
         return typed(desk, text).run();
     }
 
-    /** All that can be read of the registers, the base and the unit, and what count tells. */
+    /** All that can be read of the registers, the base and the unit, and what count tells; at the
+        size 3 it takes 96 calls. */
     static String state(PeirceDesk desk) {
         StringBuilder state = new StringBuilder();
-        for (int what = 0; what < 6; what++) {
+        int size = desk.count(0);
+        state.append(size).append(' ');
+        for (int what = 1; what < 6; what++) {
             state.append(desk.count(what)).append(' ');
         }
         for (int register = 0; register < 10; register++) {
             state.append('|');
-            for (int row = 0; row < desk.count(0); row++) {
-                for (int column = 0; column < desk.count(0); column++) {
+            for (int row = 0; row < size; row++) {
+                for (int column = 0; column < size; column++) {
                     state.append(desk.entry(register, row, column)).append(',');
                 }
             }

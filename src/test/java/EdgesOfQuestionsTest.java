@@ -538,8 +538,14 @@ public final class EdgesOfQuestionsTest extends Edges {
     @Sentence("Promise 11: power, power 0 to 2000, BAD_VALUE if power is out of range")
     void powerRange() {
         for (int size : SIZES) {
+            for (int from = 0; from <= 2000; from += 500) {
+                PeirceDesk some = desk(size, 11);
+                for (int power = from; power < from + 500 && power <= 2000; power++) {
+                    due("power(0, " + power + ", 0, 0) of 0", some.power(0, power, 0, 0), power == 0 ? 1 : 0);
+                }
+            }
             PeirceDesk desk = desk(size, 11);
-            range("power(0, power, 0, 0)", power -> desk.power(0, power, 0, 0), 0, 2000, BAD_VALUE);
+            each("power(0, power, 0, 0)", power -> desk.power(0, power, 0, 0), BAD_VALUE, -1, -2, 2001, 2002, LEAST, MOST);
             each("power(0, power, 0, 0)", power -> desk.power(0, power, 0, 0), BAD_VALUE, NONE, 2047, 2048, 4000);
         }
     }

@@ -13,6 +13,9 @@ public final class ModelTest {
     /* Runs in which half of the calls have any arguments at all. */
     private static final int WILD_RUNS = 120;
     private static final int CALLS = 512;
+    private static final int ELEMENTS = 10, COUNTS = 7;
+    /* No longer, so that the calls of one step are less than 70. */
+    private static final int LONGEST_TEXT = 160;
     private static final int[] MODULI = {3, 5, 7, 11};
     private static final int[] WILD = {Integer.MIN_VALUE, Integer.MIN_VALUE + 1, Integer.MAX_VALUE, Integer.MAX_VALUE - 1,
         -256, 255, 256, 1 << 16, -(1 << 16), 1999, 2000, 2001, PeirceDesk.NONE};
@@ -69,10 +72,10 @@ public final class ModelTest {
                 step();
             }
         }
-        while (calls < CALLS - 14 && !checks.anyWrong()) {
+        while (calls + ELEMENTS + COUNTS <= CALLS && !checks.anyWrong()) {
             readElements();
         }
-        for (int what = 0; what < 7; what++) {
+        for (int what = 0; what < COUNTS; what++) {
             due("count(" + what + ")", desk.count(what), model.count(what));
         }
     }
@@ -280,7 +283,7 @@ public final class ModelTest {
     }
 
     private void readElements() {
-        for (int register = 0; register < 10; register++) {
+        for (int register = 0; register < ELEMENTS; register++) {
             int row = below(model.now.size);
             int column = below(model.now.size);
             readOne(register, row, column);
@@ -297,6 +300,7 @@ public final class ModelTest {
         if (oneIn(5) && text.length() > 1) {
             text = damaged(text);
         }
+        text = text.substring(0, Math.min(LONGEST_TEXT, text.length()));
         for (int from = 0; from < text.length(); from += 8) {
             put(Checks.packed(text.substring(from, Math.min(from + 8, text.length()))));
         }

@@ -20,9 +20,12 @@ public final class NothingChangesTest extends Edges {
     /** Reading uses a desk up, so one is made for each thing that is read. */
     private static String everything(Supplier<PeirceDesk> made) {
         StringBuilder all = new StringBuilder(state(made.get()));
-        PeirceDesk undone = made.get();
-        for (int k = 0; k < 7; k++) {
-            all.append("\n undo ").append(undone.undo()).append(' ').append(state(undone));
+        for (int many = 1; many <= 7; many++) {
+            PeirceDesk undone = made.get();
+            for (int k = 0; k < many; k++) {
+                all.append("\n undo ").append(undone.undo());
+            }
+            all.append(' ').append(state(undone));
         }
         for (int slot = 0; slot < 2; slot++) {
             PeirceDesk restored = made.get();

@@ -1,21 +1,12 @@
-import java.io.IOException;
-import java.io.PrintWriter;
-import java.io.StringWriter;
 import java.lang.reflect.Field;
 import java.net.URL;
 import java.net.URLClassLoader;
 import java.nio.file.Files;
 import java.nio.file.Path;
 import java.util.ArrayList;
-import java.util.Comparator;
 import java.util.List;
 import java.util.regex.Matcher;
 import java.util.regex.Pattern;
-import java.util.stream.Stream;
-import javax.tools.JavaCompiler;
-import javax.tools.JavaFileObject;
-import javax.tools.StandardJavaFileManager;
-import javax.tools.ToolProvider;
 
 /** The examples of README.md: they compile, and each call answers what stands behind it. */
 public final class ReadmeTest {
@@ -79,30 +70,15 @@ public final class ReadmeTest {
         try {
             Path file = folder.resolve("Example.java");
             Files.writeString(file, code);
-            JavaCompiler compiler = ToolProvider.getSystemJavaCompiler();
-            StringWriter faults = new StringWriter();
-            boolean done;
-            try (StandardJavaFileManager files = compiler.getStandardFileManager(null, null, null)) {
-                Iterable<? extends JavaFileObject> units = files.getJavaFileObjects(file);
-                List<String> options = List.of("-d", folder.toString(), "-cp", System.getProperty("java.class.path"));
-                done = compiler.getTask(new PrintWriter(faults), files, null, options, null, units).call();
-            }
-            if (!done) {
-                return faults.toString();
+            String faults = Compiling.compile(List.of(file), folder, System.getProperty("java.class.path"));
+            if (!faults.isEmpty()) {
+                return faults;
             }
             try (URLClassLoader loader = new URLClassLoader(new URL[] {folder.toUri().toURL()})) {
                 return (String) loader.loadClass("Example").getMethod("told").invoke(null);
             }
         } finally {
-            remove(folder);
-        }
-    }
-
-    private static void remove(Path folder) throws IOException {
-        try (Stream<Path> inside = Files.walk(folder)) {
-            for (Path each : (Iterable<Path>) inside.sorted(Comparator.reverseOrder())::iterator) {
-                Files.delete(each);
-            }
+            Compiling.remove(folder);
         }
     }
 }

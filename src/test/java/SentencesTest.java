@@ -1,3 +1,5 @@
+import java.util.function.ToIntFunction;
+
 /**
  * The sentences of the document that name no boundary case, as far as no other test is for each of
  * them: what an object is used for, the terms at the size 3 by a turned base, and the promises.
@@ -220,9 +222,10 @@ public final class SentencesTest extends Edges {
 
     /** Of the size 3 and the modulus 7, by the base H = 2 1 0 / 1 3 4 / 0 4 6: A = 1 2 3 / 2 4 5 / 3 5 6,
         B = 0 1 6 / 1 2 0 / 6 0 3, C = 3 0 2 / 0 5 1 / 2 1 0, D = 1 2 3 / 2 4 6 / 3 6 2, its own square,
-        and E, the unit less D. */
+        and E, the unit less D; the slot 0 has the desk as it was begun. */
     private static PeirceDesk turned() {
         PeirceDesk desk = desk(3, 7);
+        desk.save(0);
         Checks.write(desk, 7, 2, 1, 0, 3, 4, 6);
         desk.base(7);
         Checks.write(desk, 0, 1, 2, 3, 4, 5, 6);
@@ -459,6 +462,44 @@ public final class SentencesTest extends Edges {
         due("of(0, 6) of the size 2", desk.of(0, 6), 2);
     }
 
+    @Sentence("Promise 8: of, 6 its degree: 2 for a sum of multiples of the unit and of an element that is its own square, by any base")
+    void degreeByAnyBase() {
+        int[][] bases = {{1, 0, 0, 1, 0, 1}, {2, 1, 0, 3, 4, 6}, {0, 1, 0, 0, 0, 1}, {0, 0, 1, 1, 0, 0}, {1, 0, 0, 2, 0, 3}};
+        int[] moduli = {7, 11};
+        for (int round = 0; round < 400; round++) {
+            PeirceDesk desk = desk(3, moduli[round % 2]);
+            Checks.write(desk, 0, bases[round / 2 % bases.length]);
+            desk.base(0);
+            if (writeOwnSquare(desk, next(7), next(7), next(7))) {
+                due("of(1, 3)", desk.of(1, 3), 1);
+                due("of(1, 6)", desk.of(1, 6), 2);
+                int times = 1 + next(6);
+                run(desk, "C:" + next(7) + "*i+" + times + "*B");
+                due("of(2, 6), a sum", desk.of(2, 6), 2);
+                run(desk, "C:" + times + "*i");
+                due("of(2, 6), a multiple of the unit", desk.of(2, 6), 1);
+            }
+        }
+    }
+
+    /** Writes the multiple of x with itself that is its own square into B; false if there is none. */
+    private static boolean writeOwnSquare(PeirceDesk desk, int... x) {
+        int modulus = desk.count(1);
+        int sum = 0;
+        for (int place = 0; place < 9; place++) {
+            sum += x[place / 3] * desk.entry(8, place / 3, place % 3) * x[place % 3];
+        }
+        for (int times = 1; times < modulus; times++) {
+            if (times * sum % modulus == 1) {
+                for (int place = 0; place < 9; place++) {
+                    desk.set(1, place / 3, place % 3, times * x[place / 3] * x[place % 3] % modulus);
+                }
+                return true;
+            }
+        }
+        return false;
+    }
+
     @Sentence("Promise 9: count, 0 the size: as it was begun, undone and restored")
     void countSize() {
         PeirceDesk desk = new PeirceDesk();
@@ -523,32 +564,22 @@ public final class SentencesTest extends Edges {
 
     @Sentence("Promise 20: undoes the latest change: each method that is a change, of the size 3 with every number different")
     void undoOfEachChange() {
+        undone("begin", desk -> desk.begin(2, 3));
+        undone("set", desk -> desk.set(0, 2, 1, 0));
+        undone("base", desk -> desk.base(1));
+        undone("split", desk -> desk.split(3, 0, 2));
+        undone("run", desk -> run(desk, "H:u(A,B)"));
+        undone("restore", desk -> desk.restore(0));
+    }
+
+    private void undone(String call, ToIntFunction<PeirceDesk> change) {
         PeirceDesk desk = turned();
         String before = elements(desk);
-        desk.begin(2, 3);
-        desk.undo();
-        dueText("behind begin and undo", elements(desk), before);
-        desk.set(0, 2, 1, 0);
-        desk.undo();
-        dueText("behind set and undo", elements(desk), before);
-        desk.base(1);
-        desk.undo();
-        dueText("behind base and undo", elements(desk), before);
-        desk.split(3, 0, 2);
-        desk.undo();
-        dueText("behind split and undo", elements(desk), before);
-        run(desk, "H:u(A,B)");
-        desk.undo();
-        dueText("behind run and undo", elements(desk), before);
-        desk.save(0);
-        desk.begin(2, 11);
-        Checks.write(desk, 5, 1, 10, 7);
-        desk.base(5);
-        String other = elements(desk);
-        desk.restore(0);
-        dueText("behind restore", elements(desk), before);
-        desk.undo();
-        dueText("behind restore and undo", elements(desk), other);
+        due("changes ahead of " + call, desk.count(5), 6);
+        due(call + " is no error", change.applyAsInt(desk) >= 0 ? 1 : 0, 1);
+        due(call + " makes a difference", elements(desk).equals(before) ? 1 : 0, 0);
+        due("undo() of " + call, desk.undo(), 5);
+        dueText("behind " + call + " and undo", elements(desk), before);
     }
 
     /** The state without the lengths of the pad and of the history. */
