@@ -9,9 +9,9 @@ import java.util.Comparator;
  * numbers, so that every run of this test is the same.
  */
 public final class ModelTest {
-    private static final int RUNS = 240;
+    private static final int RUNS = 480;
     /* Runs in which half of the calls have any arguments at all. */
-    private static final int WILD_RUNS = 120;
+    private static final int WILD_RUNS = 240;
     private static final int CALLS = 512;
     private static final int ELEMENTS = 10, COUNTS = 7;
     /* No longer, so that the calls of one step are less than 70. */
